@@ -1,0 +1,298 @@
+/** Promises 1 to 5 and 47: the TAPE, the text of a BANK, its FAULTS, what is told about. */
+public final class TextTest {
+    private static final String S = "store s ints 400;";
+
+    public static void main(String[] args) {
+        newObject();
+        tape();
+        tokens();
+        caches();
+        stores();
+        textures();
+        fills();
+        faultLeavesAll();
+        newBankClearsAll();
+        about();
+        Due.close();
+    }
+
+    private static void fault(String text, int number, int place) {
+        TexelBank x = new TexelBank();
+        Due.due("bank of " + text, Due.tell(x, text), TexelBank.NONE);
+        Due.due("fault(0) of " + text, x.fault(0), number);
+        Due.due("fault(1) of " + text, x.fault(1), place);
+    }
+
+    /** The FAULT is where the text after the sign ! begins. */
+    private static void faultAt(int number, String text) {
+        int place = text.indexOf('!');
+        fault(text.substring(0, place) + text.substring(place + 1), number, place);
+    }
+
+    private static void good(int stores, String text) {
+        TexelBank x = new TexelBank();
+        Due.due("bank of " + text, Due.tell(x, text), stores);
+        Due.due("fault(0) of " + text, x.fault(0), 0);
+        Due.due("fault(1) of " + text, x.fault(1), TexelBank.NONE);
+    }
+
+    private static void newObject() {
+        TexelBank x = new TexelBank();
+        Due.due("NONE", TexelBank.NONE, -1);
+        Due.due("STRANGE", TexelBank.STRANGE, -1000000001);
+        int[] due = {0, 0, 4, 2, 4, 0, 0, 0, 0, 0, 0};
+        for (int what = 0; what < due.length; what++) {
+            Due.due("about(" + what + ") of a new object", x.about(what), due[what]);
+        }
+        Due.due("fault(0) ahead of any bank", x.fault(0), 0);
+        Due.due("fault(1) ahead of any bank", x.fault(1), -1);
+        Due.due("fault(2)", x.fault(2), -1);
+        Due.due("fault(-1)", x.fault(-1), -1);
+        Due.due("bank of an empty tape", x.bank(), 0);
+    }
+
+    private static void tape() {
+        TexelBank x = new TexelBank();
+        for (int k = 1; k <= 45; k++) {
+            Due.due("feed " + k, x.feed(0, 0, 0, 0, 0), 20 * k);
+        }
+        Due.due("feed beyond 900", x.feed(0, 0, 0, 0, 0), -1);
+        Due.due("about(9)", x.about(9), 900);
+        Due.due("end(901)", x.end(901), -1);
+        Due.due("end(-1)", x.end(-1), -1);
+        Due.due("about(9)", x.about(9), 900);
+        Due.due("end(881)", x.end(881), 881);
+        Due.due("feed beyond 900", x.feed(0, 0, 0, 0, 0), -1);
+        Due.due("about(9)", x.about(9), 881);
+        Due.due("end(880)", x.end(880), 880);
+        Due.due("feed up to 900", x.feed(0, 0, 0, 0, 0), 900);
+        Due.due("end(0)", x.end(0), 0);
+        // "thing a;" and then what end() cuts off; of each number the highest byte comes first
+        Due.due("feed", x.feed(0x7468696e, 0x6720613b, 0x3f3f3f3f, -1, -1), 20);
+        Due.due("end(8)", x.end(8), 8);
+        Due.due("bank", x.bank(), 1);
+        Due.due("kind(0)", x.kind(0), 10);
+        Due.due("tape is empty after bank()", x.about(9), 0);
+        Due.tape(x, "?");
+        Due.due("bank", x.bank(), -1);
+        Due.due("tape is empty after a fault", x.about(9), 0);
+        Due.due("end(1)", x.end(1), -1);
+    }
+
+    private static void tokens() {
+        good(0, "");
+        good(0, " \n ");
+        good(1, "\nthing\na\n;\n");
+        good(1, "store b ints1;");
+        good(1, "store b ints 0001;");
+        faultAt(1, "!?");
+        faultAt(1, "thing a;!Thing b;");
+        faultAt(1, "thing a;!\tthing b;");
+        faultAt(1, "thing !\u0000;");
+        faultAt(1, "thing !\u00e9;");
+        faultAt(1, "!abcdefghi");
+        faultAt(2, "!abcdefgh");
+        faultAt(1, "store b ints !12345;");
+        faultAt(1, "store b ints !1a;");
+        faultAt(1, "store b ints!1a;");
+        faultAt(2, "store b ints 1 !a;");
+        faultAt(1, "!1a");
+        faultAt(2, "!1");
+        faultAt(2, "!;");
+        faultAt(2, "thing a;!;");
+    }
+
+
+    private static void caches() {
+        good(0, "cache 1 by 1 of 1;");
+        good(0, "cache 8 by 4 of 16;");
+        good(1, "thing a; cache 2 by 3 of 8;");
+        faultAt(4, "cache !3");
+        faultAt(4, "cache !0 by 1 of 1;");
+        faultAt(4, "cache !16 by 1 of 1;");
+        faultAt(4, "cache 1 by !5");
+        faultAt(4, "cache 1 by !0 of 1;");
+        faultAt(4, "cache 1 by 1 of !3");
+        faultAt(4, "cache 1 by 1 of !32;");
+        faultAt(2, "cache !by 1 of 1;");
+        faultAt(2, "cache 1 !of 1 by 1;");
+        faultAt(2, "cache 1 by 1 !by 1;");
+        faultAt(2, "cache 1 by 1 of 1!");
+        faultAt(2, "cache 1 by 1 of 1 !");
+        faultAt(2, "cache 1 by 1 of 1;!cache 1 by 1 of 1;");
+        TexelBank x = Due.told("cache 8 by 3 of 16;");
+        Due.due("about(2)", x.about(2), 8);
+        Due.due("about(3)", x.about(3), 3);
+        Due.due("about(4)", x.about(4), 16);
+    }
+
+    private static void stores() {
+        good(1, "store abcdefg ints 1;");
+        // kind, order, wrap, line stand for other words in the grammar, so they are NAMES
+        good(4, "store kind ints 1;thing order;none wrap;thing line;");
+        faultAt(2, "store !abcdefgh ints 1;");
+        faultAt(1, "store !abcdefghi ints 1;");
+        for (String word : "cache by of store thing none texture on at size levels fill bits bytes chars shorts ints longs floats doubles texels words rows tiles curves repeat clamp mirror".split(" ")) {
+            faultAt(2, "thing !" + word + ";");
+        }
+        faultAt(2, "store b !kind ints 1;");
+        faultAt(2, "store b !rows 1;");
+        faultAt(2, "store b !1;");
+        faultAt(2, "store b ints !;");
+        faultAt(4, "store b ints !0;");
+        faultAt(4, "store b ints !401;");
+        good(1, "store b ints 400;");
+        faultAt(2, "store b ints 1!");
+        faultAt(3, "store b ints 1;thing !b;");
+        faultAt(3, "none t;store !t ints 1;");
+        faultAt(2, "thing a !ints 1;");
+        good(6, "thing a;thing b;thing c;thing d;thing e;thing f;");
+        faultAt(2, "thing a;thing b;thing c;thing d;thing e;thing f;!thing g;");
+        faultAt(2, "thing a;thing b;none c;store d bits 1;thing e;thing f;!none g;");
+        faultAt(2, "thing a;thing b;none c;store d bits 1;thing e;thing f;!store g ints 1;");
+        TexelBank x = Due.told("store a bits 1;store b bytes 2;store c chars 3;store d shorts 4;store e ints 5;store f longs 6;");
+        for (int store = 0; store < 6; store++) {
+            Due.due("kind(" + store + ")", x.kind(store), store);
+            Due.due("length(" + store + ")", x.length(store), store + 1);
+        }
+        x = Due.told("store g floats 7;store h doubles 8;store i texels 9;store j words 10;thing k;none l;");
+        for (int store = 0; store < 6; store++) {
+            Due.due("kind(" + store + ")", x.kind(store), store + 6);
+        }
+    }
+
+    private static void textures() {
+        String one = " size 1 by 1 levels 1 rows repeat;";
+        good(1, S + "texture p on s at 399" + one);
+        faultAt(4, S + "texture p on s at !400" + one);
+        faultAt(3, S + "texture !s on s at 0" + one);
+        faultAt(3, S + "texture p on !p at 0" + one);
+        faultAt(3, S + "texture p on s at 0" + one + "texture q on !p at 0" + one);
+        faultAt(3, S + "texture p on s at 0" + one + "texture !p on s at 0" + one);
+        faultAt(3, S + "texture p on s at 0" + one + "thing !p;");
+        faultAt(3, "texture p on !s at 0" + one);
+        for (String kind : "bits texels words".split(" ")) {
+            faultAt(3, "store s " + kind + " 9;texture p on !s at 0" + one);
+        }
+        faultAt(3, "thing s;texture p on !s at 0" + one);
+        faultAt(3, "none s;texture p on !s at 0" + one);
+        for (String kind : "bytes chars shorts ints longs floats doubles".split(" ")) {
+            good(1, "store s " + kind + " 9;texture p on s at 0" + one);
+        }
+        faultAt(2, S + "texture p on !at at 0" + one);
+        faultAt(2, S + "texture p !at 0" + one);
+        faultAt(2, S + "texture p on s !size 1");
+        faultAt(2, S + "texture p on s at 0 size 1 by 1 levels 1 !repeat rows;");
+        faultAt(2, S + "texture p on s at 0 size 1 by 1 levels 1 rows !rows;");
+        faultAt(2, S + "texture p on s at 0 size 1 by 1 levels 1 rows repeat!");
+        faultAt(4, S + "texture p on s at 0 size !3 by 1 levels 1 rows repeat;");
+        faultAt(4, S + "texture p on s at 0 size 1 by !32 levels 1 rows repeat;");
+        faultAt(4, S + "texture p on s at 0 size 1 by !0 levels 1 rows repeat;");
+        faultAt(4, S + "texture p on s at 0 size 4 by 1 levels !0 rows repeat;");
+        faultAt(4, S + "texture p on s at 0 size 4 by 1 levels !4 rows repeat;");
+        faultAt(4, S + "texture p on s at 0 size 1 by 1 levels !2 rows repeat;");
+        good(1, S + "texture p on s at 0 size 4 by 1 levels 3 rows repeat;");
+        good(1, S + "texture p on s at 59 size 16 by 16 levels 5 rows repeat;");
+        faultAt(5, S + "texture p on s at 60 size 16 by 16 levels !5 rows repeat;");
+        faultAt(4, S + "texture p on s at 60 size 16 by 16 levels !6 rows repeat;");
+        faultAt(5, "store s ints 4;texture p on s at 0 size 2 by 2 levels !2 rows repeat;");
+        faultAt(5, "store s ints 4;texture p on s at 5 size 1 by 1 levels !1 rows repeat;");
+        good(1, "store s ints 4;texture p on s at 0 size 2 by 2 levels 1 rows repeat;");
+        String four = "";
+        for (String name : "p q r u".split(" ")) {
+            four += "texture " + name + " on s at 0" + one;
+        }
+        good(1, S + four);
+        faultAt(2, S + four + "!texture v on s at 0" + one);
+    }
+
+    private static void fills() {
+        String p = S + "texture p on s at 0 size 2 by 2 levels 2 rows repeat;";
+        good(1, p + "fill p 0 9999 1;");
+        faultAt(3, p + "fill !s 0 0 0;");
+        faultAt(3, p + "fill !q 0 0 0;");
+        faultAt(3, S + "fill !p 0 0 0;");
+        faultAt(2, p + "fill !fill 0 0 0;");
+        faultAt(1, p + "fill p 0 !10000 0;");
+        faultAt(2, p + "fill p 0 0!;");
+        faultAt(2, p + "fill p 0 0 0 !0;");
+        TexelBank x = Due.told(p + "fill p 9 9 9;fill p 1 10 100;");
+        int[] due = {100, 101, 110, 111, 105};
+        for (int place = 0; place < due.length; place++) {
+            Due.due("peek(0, 0, " + place + ")", x.peek(0, 0, place), due[place]);
+        }
+        Due.due("fills of a text are no acts", x.about(8), 0);
+        // the fills come in their order, and each makes its own levels alone
+        x = Due.told(p + "texture q on s at 1 size 1 by 1 levels 1 rows repeat;fill p 1 10 100;fill q 0 0 7;");
+        Due.due("place 1 is of the later fill", x.peek(0, 0, 1), 7);
+        Due.due("level 1 is of the earlier one", x.peek(0, 0, 4), 105);
+        int most = (900 - S.length() - p.length()) / 12;
+        String many = "";
+        for (int k = 1; k <= most; k++) {
+            many += k == most ? "fill p0 0 7;" : "fill p0 0 0;";
+        }
+        x = Due.told(p + many);
+        Due.due("the last of many fills", x.peek(0, 0, 3), 7);
+    }
+
+    private static void faultLeavesAll() {
+        TexelBank x = Due.told("cache 1 by 2 of 4;" + S + "texture p on s at 0 size 2 by 2 levels 2 rows repeat;fill p 1 10 100;");
+        x.image(1);
+        x.poke(0, 5, 0, 5);
+        x.fetch(0, 0, 0, 0);
+        Due.due("bank", Due.tell(x, "cache 8 by 1 of 1;store s bits 3;fill x 0 0 0;"), -1);
+        int[] due = {1, 1, 1, 2, 4, 0, 1, 1, 1, 0, 400};
+        for (int what = 0; what < due.length; what++) {
+            Due.due("about(" + what + ") after a fault", x.about(what), due[what]);
+        }
+        Due.due("kind(0) after a fault", x.kind(0), 4);
+        Due.due("peek after a fault", x.peek(0, 0, 0), 5);
+        Due.due("texture after a fault", x.texture(0, 2), 2);
+        Due.due("undo after a fault", x.undo(), 0);
+        Due.due("back after a fault", x.back(1), 527);
+        Due.due("bank", Due.tell(x, "thing a;"), 1);
+        Due.due("fault(0) of the latest bank", x.fault(0), 0);
+        Due.due("fault(1) of the latest bank", x.fault(1), -1);
+    }
+
+    private static void newBankClearsAll() {
+        String text = "cache 1 by 2 of 4;" + S + "texture p on s at 0 size 2 by 2 levels 2 rows repeat;";
+        TexelBank x = Due.told(text);
+        x.fill(0, 1, 1, 1);
+        x.image(0);
+        x.fetch(0, 0, 0, 0);
+        x.fetch(0, 0, 1, 0);
+        Due.due("bank", Due.tell(x, S + "texture p on s at 0 size 2 by 2 levels 2 rows repeat;"), 1);
+        int[] due = {1, 1, 4, 2, 4, 0, 0, 0, 0, 0, 400};
+        for (int what = 0; what < due.length; what++) {
+            Due.due("about(" + what + ") of the new bank", x.about(what), due[what]);
+        }
+        Due.due("total of the new bank", x.total(0), 0);
+        Due.due("undo in the new bank", x.undo(), -1);
+        Due.due("back in the new bank", x.back(0), -1);
+        Due.due("hottest in the new bank", x.hottest(0, 0), -1);
+        Due.due("bank", Due.tell(x, ""), 0);
+        Due.due("kind(0) of an empty bank", x.kind(0), -1);
+        Due.due("texture(0, 0) of an empty bank", x.texture(0, 0), -1);
+    }
+
+    private static void about() {
+        TexelBank x = Due.told("store a bits 3;thing b;none c;store d words 4;" + S + "texture p on s at 0 size 4 by 4 levels 1 rows repeat;");
+        Due.due("about(0)", x.about(0), 5);
+        Due.due("about(1)", x.about(1), 1);
+        Due.due("about(10)", x.about(10), 407);
+        Due.due("about(11)", x.about(11), -1);
+        Due.due("about(-1)", x.about(-1), -1);
+        x.poke(0, 1, 0, 1);
+        Due.due("about(8)", x.about(8), 1);
+        x.feed(0, 0, 0, 0, 0);
+        Due.due("about(9)", x.about(9), 20);
+        x.fetch(0, 0, 0, 0);
+        x.fetch(0, 0, 1, 0);
+        x.fetch(0, 0, 2, 0);
+        x.fetch(0, 0, 0, 1);
+        Due.due("about(5)", x.about(5), 2);
+        Due.due("about(6)", x.about(6), 2);
+        Due.due("about(7)", x.about(7), 2);
+    }
+}
