@@ -46,6 +46,8 @@ public final class BlocksTest {
     }
 
     private static void packing() {
+        TexelBank fresh = painted(new int[] {12, 0, 30, 0, 0, 0, 0, 0, 0, 0, 0, 0, 0, 0, 0, 19});
+        Due.due("off, with nothing packed ahead", fresh.off(0, 0, 0, 0), 2 + 1);
         TexelBank x = painted(new int[] {0, 30, 10, 20, 5, 25, 15, 6, 14, 16, 24, 26, 30, 0, 4, 29});
         // choices: 30, 0, 20, 10; of like ones the least: 5 is choice 1, 25 is choice 0, 15 is choice 2
         int[] due = {1, 0, 3, 2, 1, 0, 2, 3, 3, 2, 2, 0, 0, 1, 1, 0};

@@ -64,6 +64,10 @@ public final class CacheTest {
         Due.due("next line", x.fetch(0, 0, 1, 2), 0);
         Due.due("leaves(1)", x.leaves(1), 25);
         Due.due("leaves(0)", x.leaves(0), 26);
+        x = Due.told("cache 8 by 4 of 1;thing a;thing b;none c;none d;thing e;" + S + texture(394, 4, 1, 2, "rows"));
+        Due.due("the greatest line", x.fetch(0, 1, 1, 0), 0);
+        Due.due("the greatest line", x.hottest(0, 0), 5 * 400 + 399);
+        Due.due("the greatest line", x.hottest(0, 1), 1);
     }
 
     private static void flushing() {
@@ -102,11 +106,11 @@ public final class CacheTest {
     private static void hottest() {
         TexelBank x = Due.told("cache 1 by 1 of 4;" + S + texture(0, 16, 16, 1, "rows"));
         Due.due("hottest of none", x.hottest(0, 1), -1);
-        int[] lines = {9, 3, 3, 60, 9, 1, 60, 9, 20};
+        int[] lines = {9, 3, 3, 60, 9, 0, 60, 9, 20};
         for (int line : lines) {
             x.fetch(0, 0, line % 4 * 4 + line % 3, line / 4);
         }
-        int[][] due = {{9, 3}, {3, 2}, {60, 2}, {1, 1}, {20, 1}, {-1, -1}};
+        int[][] due = {{9, 3}, {3, 2}, {60, 2}, {0, 1}, {20, 1}, {-1, -1}};
         for (int k = 0; k < due.length; k++) {
             Due.due("hottest(" + k + ", 0)", x.hottest(k, 0), due[k][0]);
             Due.due("hottest(" + k + ", 1)", x.hottest(k, 1), due[k][1]);

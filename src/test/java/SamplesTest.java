@@ -28,6 +28,9 @@ public final class SamplesTest {
         Due.due("nearest(0, 1, -1, 0)", x.nearest(0, 1, -1, 0), 72);
         Due.due("nearest(0, 2, 9999, -9999)", x.nearest(0, 2, 9999, -9999), 120);
         Due.due("clamped", sixteens("clamp").nearest(0, 0, -100, 100), 192);
+        Due.due("clamped on level 1", sixteens("clamp").nearest(0, 1, -1, 40), 160 + 8);
+        Due.due("clamped on level 1", sixteens("clamp").nearest(0, 1, 40, -1), 72);
+        Due.due("clamped on level 2", sixteens("clamp").nearest(0, 2, -1, -1), 120);
         Due.due("mirrored", sixteens("mirror").nearest(0, 0, -17, 64), 16 + 192);
         Due.due("nearest, no u", x.nearest(0, 0, 10000, 0), STRANGE);
         Due.due("nearest, no v", x.nearest(0, 0, 0, -10000), STRANGE);
@@ -46,6 +49,9 @@ public final class SamplesTest {
         Due.due("over the corner", x.smooth(0, 0, 0, 0), (240 + 192 + 48 + 0) / 4);
         Due.due("over the left edge, clamped", sixteens("clamp").smooth(0, 0, 0, 8), 0);
         Due.due("over the right edge, mirrored", sixteens("mirror").smooth(0, 0, 72, 8), 48);
+        Due.due("over the corner, clamped", sixteens("clamp").smooth(0, 0, -100, -100), 0);
+        Due.due("over the left edge of level 1, clamped", sixteens("clamp").smooth(0, 1, -10, 48), 168);
+        Due.due("over the upper edge of level 1, clamped", sixteens("clamp").smooth(0, 1, 48, -10), 72);
         Due.due("over the right edge, mirrored", sixteens("mirror").smooth(0, 0, 80, 8), 40);
         Due.due("level 1", x.smooth(0, 1, 16, 16), 40);
         Due.due("level 1, between two", x.smooth(0, 1, 32, 16), 56);
@@ -131,6 +137,14 @@ public final class SamplesTest {
         // three taps of 7: 7 * 2 / 6 cut is 2 aside
         Due.due("three taps, cut", x.filtered(0, 32, 8, 7, 0, 3, 0), (22 + 24 + 26) / 3);
         Due.due("three taps, cut below 0", x.filtered(0, 32, 8, -7, 0, 3, 0), 24);
+        // clamped at the left and upper edge: 18 and 6 aside are of texel 0 there
+        x = sixteens("clamp");
+        Due.due("four taps, clamped", x.filtered(0, 8, 8, 48, 0, 0, 12), (0 + 0 + 6 + 18) / 4);
+        Due.due("four taps, clamped", x.filtered(0, 8, 8, -48, 0, 0, 12), (0 + 0 + 6 + 18) / 4);
+        Due.due("four taps downwards, clamped", x.filtered(0, 8, 8, 0, 48, 0, 12), (0 + 0 + 24 + 72) / 4);
+        Due.due("four taps of the other axis, clamped", x.filtered(0, 8, 8, 0, 12, 48, 0), (0 + 0 + 6 + 18) / 4);
+        Due.due("four taps of the other axis, clamped", x.filtered(0, 8, 8, 12, 0, 0, 48), (0 + 0 + 24 + 72) / 4);
+        x = sixteens("repeat");
         // 64 long: LEVEL 2; 32 long: LEVEL 1
         Due.due("level 1", x.filtered(0, 32, 16, 32, 0, 0, 32), 56);
         Due.due("level 2", x.filtered(0, 32, 16, 64, 0, 0, 64), 120);

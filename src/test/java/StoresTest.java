@@ -89,6 +89,7 @@ public final class StoresTest {
         Due.due("peek of a thing", x.peek(3, 0, 0), STRANGE - OTHER);
         Due.due("peek of a thing, out", x.peek(3, 8, -1), STRANGE - OTHER);
         Due.due("peek of texels as numbers, out", x.peek(1, 5, 9), STRANGE - OTHER);
+        Due.due("peek of words as bits, out", x.peek(2, 1, 3), STRANGE - OTHER);
         Due.due("peek of words as numbers", x.peek(2, 1, 0), STRANGE - OTHER);
         Due.due("peek of texels, out", x.peek(1, 0, 3), STRANGE - OUT);
         Due.due("peek of words, out", x.peek(2, 0, -1), STRANGE - OUT);
@@ -177,6 +178,9 @@ public final class StoresTest {
             x.poke(0, 5, v % 3, v);
             Due.due("acts", x.about(8), Math.min(v, 20));
         }
+        x.poke(0, 5, 0, x.peek(0, 0, 0));
+        x.poke(1, 2, 0, 512);
+        Due.due("setting the same is no act", x.about(8), 20);
         for (int v = 25; v > 5; v--) {
             Due.due("peek", x.peek(0, 0, v % 3), v);
             Due.due("undo", x.undo(), v - 6);

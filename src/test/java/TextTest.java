@@ -1,11 +1,14 @@
 /** Promises 1 to 5 and 47: the TAPE, the text of a BANK, its FAULTS, what is told about. */
 public final class TextTest {
     private static final String S = "store s ints 400;";
+    private static final String[] WORDS = ("cache by of store thing none texture on at size levels fill bits bytes chars shorts ints longs "
+        + "floats doubles texels words rows tiles curves repeat clamp mirror").split(" ");
 
     public static void main(String[] args) {
         newObject();
         tape();
         tokens();
+        otherWords();
         caches();
         stores();
         textures();
@@ -48,7 +51,17 @@ public final class TextTest {
         Due.due("fault(1) ahead of any bank", x.fault(1), -1);
         Due.due("fault(2)", x.fault(2), -1);
         Due.due("fault(-1)", x.fault(-1), -1);
+        for (int set = -1; set <= 4; set++) {
+            Due.due("leaves(" + set + ") of a new object", x.leaves(set), -1);
+        }
+        Due.due("flush of a new object", x.flush(), 0);
+        Due.due("hottest of a new object", x.hottest(0, 0), -1);
+        Due.due("undo of a new object", x.undo(), -1);
+        Due.due("back of a new object", x.back(0), -1);
+        Due.due("image of a new object", x.image(0), 0);
+        Due.due("back of a new object", x.back(0), 0);
         Due.due("bank of an empty tape", x.bank(), 0);
+        Due.due("boxes are empty then", x.back(0), -1);
     }
 
     private static void tape() {
@@ -103,6 +116,24 @@ public final class TextTest {
     }
 
 
+    /** Each word that stands for itself behind the first of its line, with all the others in its place. */
+    private static void otherWords() {
+        String[] lines = {
+            "cache 1 !by 1 of 1;", "cache 1 by 1 !of 1;", S + "texture p !on s at 0 size 1 by 1 levels 1 rows repeat;",
+            S + "texture p on s !at 0 size 1 by 1 levels 1 rows repeat;", S + "texture p on s at 0 !size 1 by 1 levels 1 rows repeat;",
+            S + "texture p on s at 0 size 1 !by 1 levels 1 rows repeat;", S + "texture p on s at 0 size 1 by 1 !levels 1 rows repeat;",
+        };
+        for (String line : lines) {
+            int from = line.indexOf('!') + 1;
+            int to = line.indexOf(' ', from);
+            for (String word : WORDS) {
+                if (!word.equals(line.substring(from, to))) {
+                    faultAt(2, line.substring(0, from) + word + line.substring(to));
+                }
+            }
+        }
+    }
+
     private static void caches() {
         good(0, "cache 1 by 1 of 1;");
         good(0, "cache 8 by 4 of 16;");
@@ -132,7 +163,7 @@ public final class TextTest {
         good(4, "store kind ints 1;thing order;none wrap;thing line;");
         faultAt(2, "store !abcdefgh ints 1;");
         faultAt(1, "store !abcdefghi ints 1;");
-        for (String word : "cache by of store thing none texture on at size levels fill bits bytes chars shorts ints longs floats doubles texels words rows tiles curves repeat clamp mirror".split(" ")) {
+        for (String word : WORDS) {
             faultAt(2, "thing !" + word + ";");
         }
         faultAt(2, "store b !kind ints 1;");

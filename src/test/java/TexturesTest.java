@@ -10,6 +10,7 @@ public final class TexturesTest {
         tiles();
         curves();
         ordersAgree();
+        besides();
         makes();
         cuts();
         paints();
@@ -91,6 +92,9 @@ public final class TexturesTest {
         Due.due("level 2 is as rows", x.place(0, 2, 0, 1), 64 + 16 + 2);
         Due.due("too low: as rows", x.place(1, 0, 5, 1), 100 + 21);
         Due.due("too low: as rows", x.at(1, 0, 21), 21);
+        x = Due.told(S + texture("p", 0, 8, 4, 1, "tiles", "clamp"));
+        Due.due("four high is high enough", x.place(0, 0, 5, 2), 16 + 9);
+        Due.due("four high is high enough", x.at(0, 0, 25), 2 * 8 + 5);
     }
 
     private static void curves() {
@@ -149,6 +153,21 @@ public final class TexturesTest {
         int wide = x.level(0, level, 0);
         for (int k = 0; k < numbers.length; k++) {
             Due.due("texel(0, " + level + ", " + k % wide + ", " + k / wide + ")", x.texel(0, level, k % wide, k / wide), numbers[k]);
+        }
+    }
+
+    /** The PLACES beside those of a TEXTURE stay as they are. */
+    private static void besides() {
+        TexelBank x = Due.told(S + texture("p", 3, 4, 4, 3, "tiles", "clamp") + texture("q", 100, 4, 2, 2, "rows", "clamp"));
+        for (int place = 0; place < 400; place++) {
+            x.poke(0, 5, place, place + 1);
+        }
+        Due.due("fill", x.fill(0, 0, 0, 0), 21);
+        Due.due("fill", x.fill(1, 0, 0, 0), 10);
+        Due.due("make", x.make(1), 0);
+        for (int place = 0; place < 400; place++) {
+            boolean within = place >= 3 && place < 24 || place >= 100 && place < 110;
+            Due.due("peek(0, 0, " + place + ")", x.peek(0, 0, place), within ? 0 : place + 1);
         }
     }
 
