@@ -86,6 +86,10 @@ public final class SamplesTest {
         Due.due("depth 160", x.blend(0, 0, 8, 160), 120);
         Due.due("depth 161", x.blend(0, 24, 24, 161), STRANGE);
         Due.due("depth -1", x.blend(0, 24, 24, -1), STRANGE);
+        TexelBank flat = Due.told("store s ints 21;texture p on s at 0 size 4 by 4 levels 1 rows repeat;fill p 16 64 0;");
+        Due.due("one level alone", flat.blend(0, 24, 24, 0), 80);
+        Due.due("one level alone", flat.blend(0, 24, 24, 100), 80);
+        Due.due("one level alone", flat.filtered(0, 24, 24, 0, 99, 99, 0), 80);
         Due.due("blend, no u", x.blend(0, 10000, 24, 0), STRANGE);
         Due.due("blend, no v", x.blend(0, 24, -10000, 0), STRANGE);
         Due.due("blend, no texture", x.blend(1, 24, 24, 0), STRANGE);

@@ -227,6 +227,7 @@ public final class TextTest {
         faultAt(5, S + "texture p on s at 60 size 16 by 16 levels !5 rows repeat;");
         faultAt(4, S + "texture p on s at 60 size 16 by 16 levels !6 rows repeat;");
         faultAt(5, "store s ints 4;texture p on s at 0 size 2 by 2 levels !2 rows repeat;");
+        faultAt(4, "store s ints 4;texture p on s at 5 size 1 by 1 levels !0 rows repeat;");
         faultAt(5, "store s ints 4;texture p on s at 5 size 1 by 1 levels !1 rows repeat;");
         good(1, "store s ints 4;texture p on s at 0 size 2 by 2 levels 1 rows repeat;");
         String four = "";
@@ -302,6 +303,14 @@ public final class TextTest {
         Due.due("undo in the new bank", x.undo(), -1);
         Due.due("back in the new bank", x.back(0), -1);
         Due.due("hottest in the new bank", x.hottest(0, 0), -1);
+        String plain = "store s shorts 400;texture q on s at 50 size 2 by 2 levels 2 curves mirror;";
+        String filled = plain + "fill q 9 9 9;fill q 8 8 8;";
+        String[] texts = {filled, filled + "?", plain, filled, plain, filled + "?", filled + "?", plain};
+        for (String each : texts) {
+            boolean good = each.indexOf('?') < 0;
+            Due.due("bank", Due.tell(x, each), good ? 1 : -1);
+            Due.dueTrue("nothing is left of an earlier text", !each.equals(plain) || x.total(0) == 0);
+        }
         Due.due("bank", Due.tell(x, ""), 0);
         Due.due("kind(0) of an empty bank", x.kind(0), -1);
         Due.due("texture(0, 0) of an empty bank", x.texture(0, 0), -1);
