@@ -2,8 +2,31 @@
 final class Due {
     private static int right = 0;
     private static int wrong = 0;
+    private static int sentences = 0;
+    private static String sentence = "";
+    private static int answersBefore = 0;
 
     private Due() {
+    }
+
+    /** Names the sentence of the document by which the answers behind it are due. */
+    static void sentence(String head, String words) {
+        endSentence();
+        sentence = head + ", \"" + words + "\": ";
+        sentences++;
+        if (!Document.says(head, words)) {
+            wrong++;
+            System.out.println(sentence + "the document does not say so");
+        }
+        answersBefore = right + wrong;
+    }
+
+    private static void endSentence() {
+        if (!sentence.isEmpty() && right + wrong == answersBefore) {
+            wrong++;
+            System.out.println(sentence + "no answer is asked by it");
+        }
+        sentence = "";
     }
 
     static void due(String call, long got, long want) {
@@ -11,7 +34,7 @@ final class Due {
             right++;
         } else {
             wrong++;
-            System.out.println(call + " answered " + got + ", due is " + want);
+            System.out.println(sentence + call + " answered " + got + ", due is " + want);
         }
     }
 
@@ -50,7 +73,8 @@ final class Due {
     }
 
     static void close() {
-        System.out.println(right + " answers are as due, " + wrong + " are not");
+        endSentence();
+        System.out.println((sentences > 0 ? sentences + " sentences, " : "") + right + " answers are as due, " + wrong + " are not");
         if (wrong != 0) {
             System.exit(1);
         }

@@ -11,7 +11,7 @@ public final class SamplesTest {
         Due.close();
     }
 
-    // LEVEL 0 is 0 .. 15 row by row, LEVEL 1 is 2 4 10 12, LEVEL 2 is 7, each times 16
+    // LEVEL 0 is 0, 16 .. 240 row by row, LEVEL 1 is 40 72 168 200, LEVEL 2 is 120
     private static TexelBank sixteens(String wrap) {
         return Due.told("store s ints 21;texture p on s at 0 size 4 by 4 levels 3 rows " + wrap + ";fill p 16 64 0;");
     }

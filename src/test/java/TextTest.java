@@ -1,8 +1,6 @@
 /** Promises 1 to 5 and 47: the TAPE, the text of a BANK, its FAULTS, what is told about. */
 public final class TextTest {
     private static final String S = "store s ints 400;";
-    private static final String[] WORDS = ("cache by of store thing none texture on at size levels fill bits bytes chars shorts ints longs "
-        + "floats doubles texels words rows tiles curves repeat clamp mirror").split(" ");
 
     public static void main(String[] args) {
         newObject();
@@ -17,26 +15,6 @@ public final class TextTest {
         newBankClearsAll();
         about();
         Due.close();
-    }
-
-    private static void fault(String text, int number, int place) {
-        TexelBank x = new TexelBank();
-        Due.due("bank of " + text, Due.tell(x, text), TexelBank.NONE);
-        Due.due("fault(0) of " + text, x.fault(0), number);
-        Due.due("fault(1) of " + text, x.fault(1), place);
-    }
-
-    /** The FAULT is where the text after the sign ! begins. */
-    private static void faultAt(int number, String text) {
-        int place = text.indexOf('!');
-        fault(text.substring(0, place) + text.substring(place + 1), number, place);
-    }
-
-    private static void good(int stores, String text) {
-        TexelBank x = new TexelBank();
-        Due.due("bank of " + text, Due.tell(x, text), stores);
-        Due.due("fault(0) of " + text, x.fault(0), 0);
-        Due.due("fault(1) of " + text, x.fault(1), TexelBank.NONE);
     }
 
     private static void newObject() {
@@ -93,28 +71,27 @@ public final class TextTest {
     }
 
     private static void tokens() {
-        good(0, "");
-        good(0, " \n ");
-        good(1, "\nthing\na\n;\n");
-        good(1, "store b ints1;");
-        good(1, "store b ints 0001;");
-        faultAt(1, "!?");
-        faultAt(1, "thing a;!Thing b;");
-        faultAt(1, "thing a;!\tthing b;");
-        faultAt(1, "thing !\u0000;");
-        faultAt(1, "thing !\u00e9;");
-        faultAt(1, "!abcdefghi");
-        faultAt(2, "!abcdefgh");
-        faultAt(1, "store b ints !12345;");
-        faultAt(1, "store b ints !1a;");
-        faultAt(1, "store b ints!1a;");
-        faultAt(2, "store b ints 1 !a;");
-        faultAt(1, "!1a");
-        faultAt(2, "!1");
-        faultAt(2, "!;");
-        faultAt(2, "thing a;!;");
+        Texts.good(0, "");
+        Texts.good(0, " \n ");
+        Texts.good(1, "\nthing\na\n;\n");
+        Texts.good(1, "store b ints1;");
+        Texts.good(1, "store b ints 0001;");
+        Texts.faultAt(1, "!?");
+        Texts.faultAt(1, "thing a;!Thing b;");
+        Texts.faultAt(1, "thing a;!\tthing b;");
+        Texts.faultAt(1, "thing !\u0000;");
+        Texts.faultAt(1, "thing !\u00e9;");
+        Texts.faultAt(1, "!abcdefghi");
+        Texts.faultAt(2, "!abcdefgh");
+        Texts.faultAt(1, "store b ints !12345;");
+        Texts.faultAt(1, "store b ints !1a;");
+        Texts.faultAt(1, "store b ints!1a;");
+        Texts.faultAt(2, "store b ints 1 !a;");
+        Texts.faultAt(1, "!1a");
+        Texts.faultAt(2, "!1");
+        Texts.faultAt(2, "!;");
+        Texts.faultAt(2, "thing a;!;");
     }
-
 
     /** Each word that stands for itself behind the first of its line, with all the others in its place. */
     private static void otherWords() {
@@ -126,31 +103,31 @@ public final class TextTest {
         for (String line : lines) {
             int from = line.indexOf('!') + 1;
             int to = line.indexOf(' ', from);
-            for (String word : WORDS) {
+            for (String word : Texts.WORDS) {
                 if (!word.equals(line.substring(from, to))) {
-                    faultAt(2, line.substring(0, from) + word + line.substring(to));
+                    Texts.faultAt(2, line.substring(0, from) + word + line.substring(to));
                 }
             }
         }
     }
 
     private static void caches() {
-        good(0, "cache 1 by 1 of 1;");
-        good(0, "cache 8 by 4 of 16;");
-        good(1, "thing a; cache 2 by 3 of 8;");
-        faultAt(4, "cache !3");
-        faultAt(4, "cache !0 by 1 of 1;");
-        faultAt(4, "cache !16 by 1 of 1;");
-        faultAt(4, "cache 1 by !5");
-        faultAt(4, "cache 1 by !0 of 1;");
-        faultAt(4, "cache 1 by 1 of !3");
-        faultAt(4, "cache 1 by 1 of !32;");
-        faultAt(2, "cache !by 1 of 1;");
-        faultAt(2, "cache 1 !of 1 by 1;");
-        faultAt(2, "cache 1 by 1 !by 1;");
-        faultAt(2, "cache 1 by 1 of 1!");
-        faultAt(2, "cache 1 by 1 of 1 !");
-        faultAt(2, "cache 1 by 1 of 1;!cache 1 by 1 of 1;");
+        Texts.good(0, "cache 1 by 1 of 1;");
+        Texts.good(0, "cache 8 by 4 of 16;");
+        Texts.good(1, "thing a; cache 2 by 3 of 8;");
+        Texts.faultAt(4, "cache !3");
+        Texts.faultAt(4, "cache !0 by 1 of 1;");
+        Texts.faultAt(4, "cache !16 by 1 of 1;");
+        Texts.faultAt(4, "cache 1 by !5");
+        Texts.faultAt(4, "cache 1 by !0 of 1;");
+        Texts.faultAt(4, "cache 1 by 1 of !3");
+        Texts.faultAt(4, "cache 1 by 1 of !32;");
+        Texts.faultAt(2, "cache !by 1 of 1;");
+        Texts.faultAt(2, "cache 1 !of 1 by 1;");
+        Texts.faultAt(2, "cache 1 by 1 !by 1;");
+        Texts.faultAt(2, "cache 1 by 1 of 1!");
+        Texts.faultAt(2, "cache 1 by 1 of 1 !");
+        Texts.faultAt(2, "cache 1 by 1 of 1;!cache 1 by 1 of 1;");
         TexelBank x = Due.told("cache 8 by 3 of 16;");
         Due.due("about(2)", x.about(2), 8);
         Due.due("about(3)", x.about(3), 3);
@@ -158,29 +135,29 @@ public final class TextTest {
     }
 
     private static void stores() {
-        good(1, "store abcdefg ints 1;");
+        Texts.good(1, "store abcdefg ints 1;");
         // kind, order, wrap, line stand for other words in the grammar, so they are NAMES
-        good(4, "store kind ints 1;thing order;none wrap;thing line;");
-        faultAt(2, "store !abcdefgh ints 1;");
-        faultAt(1, "store !abcdefghi ints 1;");
-        for (String word : WORDS) {
-            faultAt(2, "thing !" + word + ";");
+        Texts.good(4, "store kind ints 1;thing order;none wrap;thing line;");
+        Texts.faultAt(2, "store !abcdefgh ints 1;");
+        Texts.faultAt(1, "store !abcdefghi ints 1;");
+        for (String word : Texts.WORDS) {
+            Texts.faultAt(2, "thing !" + word + ";");
         }
-        faultAt(2, "store b !kind ints 1;");
-        faultAt(2, "store b !rows 1;");
-        faultAt(2, "store b !1;");
-        faultAt(2, "store b ints !;");
-        faultAt(4, "store b ints !0;");
-        faultAt(4, "store b ints !401;");
-        good(1, "store b ints 400;");
-        faultAt(2, "store b ints 1!");
-        faultAt(3, "store b ints 1;thing !b;");
-        faultAt(3, "none t;store !t ints 1;");
-        faultAt(2, "thing a !ints 1;");
-        good(6, "thing a;thing b;thing c;thing d;thing e;thing f;");
-        faultAt(2, "thing a;thing b;thing c;thing d;thing e;thing f;!thing g;");
-        faultAt(2, "thing a;thing b;none c;store d bits 1;thing e;thing f;!none g;");
-        faultAt(2, "thing a;thing b;none c;store d bits 1;thing e;thing f;!store g ints 1;");
+        Texts.faultAt(2, "store b !kind ints 1;");
+        Texts.faultAt(2, "store b !rows 1;");
+        Texts.faultAt(2, "store b !1;");
+        Texts.faultAt(2, "store b ints !;");
+        Texts.faultAt(4, "store b ints !0;");
+        Texts.faultAt(4, "store b ints !401;");
+        Texts.good(1, "store b ints 400;");
+        Texts.faultAt(2, "store b ints 1!");
+        Texts.faultAt(3, "store b ints 1;thing !b;");
+        Texts.faultAt(3, "none t;store !t ints 1;");
+        Texts.faultAt(2, "thing a !ints 1;");
+        Texts.good(6, "thing a;thing b;thing c;thing d;thing e;thing f;");
+        Texts.faultAt(2, "thing a;thing b;thing c;thing d;thing e;thing f;!thing g;");
+        Texts.faultAt(2, "thing a;thing b;none c;store d bits 1;thing e;thing f;!none g;");
+        Texts.faultAt(2, "thing a;thing b;none c;store d bits 1;thing e;thing f;!store g ints 1;");
         TexelBank x = Due.told("store a bits 1;store b bytes 2;store c chars 3;store d shorts 4;store e ints 5;store f longs 6;");
         for (int store = 0; store < 6; store++) {
             Due.due("kind(" + store + ")", x.kind(store), store);
@@ -194,60 +171,60 @@ public final class TextTest {
 
     private static void textures() {
         String one = " size 1 by 1 levels 1 rows repeat;";
-        good(1, S + "texture p on s at 399" + one);
-        faultAt(4, S + "texture p on s at !400" + one);
-        faultAt(3, S + "texture !s on s at 0" + one);
-        faultAt(3, S + "texture p on !p at 0" + one);
-        faultAt(3, S + "texture p on s at 0" + one + "texture q on !p at 0" + one);
-        faultAt(3, S + "texture p on s at 0" + one + "texture !p on s at 0" + one);
-        faultAt(3, S + "texture p on s at 0" + one + "thing !p;");
-        faultAt(3, "texture p on !s at 0" + one);
+        Texts.good(1, S + "texture p on s at 399" + one);
+        Texts.faultAt(4, S + "texture p on s at !400" + one);
+        Texts.faultAt(3, S + "texture !s on s at 0" + one);
+        Texts.faultAt(3, S + "texture p on !p at 0" + one);
+        Texts.faultAt(3, S + "texture p on s at 0" + one + "texture q on !p at 0" + one);
+        Texts.faultAt(3, S + "texture p on s at 0" + one + "texture !p on s at 0" + one);
+        Texts.faultAt(3, S + "texture p on s at 0" + one + "thing !p;");
+        Texts.faultAt(3, "texture p on !s at 0" + one);
         for (String kind : "bits texels words".split(" ")) {
-            faultAt(3, "store s " + kind + " 9;texture p on !s at 0" + one);
+            Texts.faultAt(3, "store s " + kind + " 9;texture p on !s at 0" + one);
         }
-        faultAt(3, "thing s;texture p on !s at 0" + one);
-        faultAt(3, "none s;texture p on !s at 0" + one);
+        Texts.faultAt(3, "thing s;texture p on !s at 0" + one);
+        Texts.faultAt(3, "none s;texture p on !s at 0" + one);
         for (String kind : "bytes chars shorts ints longs floats doubles".split(" ")) {
-            good(1, "store s " + kind + " 9;texture p on s at 0" + one);
+            Texts.good(1, "store s " + kind + " 9;texture p on s at 0" + one);
         }
-        faultAt(2, S + "texture p on !at at 0" + one);
-        faultAt(2, S + "texture p !at 0" + one);
-        faultAt(2, S + "texture p on s !size 1");
-        faultAt(2, S + "texture p on s at 0 size 1 by 1 levels 1 !repeat rows;");
-        faultAt(2, S + "texture p on s at 0 size 1 by 1 levels 1 rows !rows;");
-        faultAt(2, S + "texture p on s at 0 size 1 by 1 levels 1 rows repeat!");
-        faultAt(4, S + "texture p on s at 0 size !3 by 1 levels 1 rows repeat;");
-        faultAt(4, S + "texture p on s at 0 size 1 by !32 levels 1 rows repeat;");
-        faultAt(4, S + "texture p on s at 0 size 1 by !0 levels 1 rows repeat;");
-        faultAt(4, S + "texture p on s at 0 size 4 by 1 levels !0 rows repeat;");
-        faultAt(4, S + "texture p on s at 0 size 4 by 1 levels !4 rows repeat;");
-        faultAt(4, S + "texture p on s at 0 size 1 by 1 levels !2 rows repeat;");
-        good(1, S + "texture p on s at 0 size 4 by 1 levels 3 rows repeat;");
-        good(1, S + "texture p on s at 59 size 16 by 16 levels 5 rows repeat;");
-        faultAt(5, S + "texture p on s at 60 size 16 by 16 levels !5 rows repeat;");
-        faultAt(4, S + "texture p on s at 60 size 16 by 16 levels !6 rows repeat;");
-        faultAt(5, "store s ints 4;texture p on s at 0 size 2 by 2 levels !2 rows repeat;");
-        faultAt(4, "store s ints 4;texture p on s at 5 size 1 by 1 levels !0 rows repeat;");
-        faultAt(5, "store s ints 4;texture p on s at 5 size 1 by 1 levels !1 rows repeat;");
-        good(1, "store s ints 4;texture p on s at 0 size 2 by 2 levels 1 rows repeat;");
+        Texts.faultAt(2, S + "texture p on !at at 0" + one);
+        Texts.faultAt(2, S + "texture p !at 0" + one);
+        Texts.faultAt(2, S + "texture p on s !size 1");
+        Texts.faultAt(2, S + "texture p on s at 0 size 1 by 1 levels 1 !repeat rows;");
+        Texts.faultAt(2, S + "texture p on s at 0 size 1 by 1 levels 1 rows !rows;");
+        Texts.faultAt(2, S + "texture p on s at 0 size 1 by 1 levels 1 rows repeat!");
+        Texts.faultAt(4, S + "texture p on s at 0 size !3 by 1 levels 1 rows repeat;");
+        Texts.faultAt(4, S + "texture p on s at 0 size 1 by !32 levels 1 rows repeat;");
+        Texts.faultAt(4, S + "texture p on s at 0 size 1 by !0 levels 1 rows repeat;");
+        Texts.faultAt(4, S + "texture p on s at 0 size 4 by 1 levels !0 rows repeat;");
+        Texts.faultAt(4, S + "texture p on s at 0 size 4 by 1 levels !4 rows repeat;");
+        Texts.faultAt(4, S + "texture p on s at 0 size 1 by 1 levels !2 rows repeat;");
+        Texts.good(1, S + "texture p on s at 0 size 4 by 1 levels 3 rows repeat;");
+        Texts.good(1, S + "texture p on s at 59 size 16 by 16 levels 5 rows repeat;");
+        Texts.faultAt(5, S + "texture p on s at 60 size 16 by 16 levels !5 rows repeat;");
+        Texts.faultAt(4, S + "texture p on s at 60 size 16 by 16 levels !6 rows repeat;");
+        Texts.faultAt(5, "store s ints 4;texture p on s at 0 size 2 by 2 levels !2 rows repeat;");
+        Texts.faultAt(4, "store s ints 4;texture p on s at 5 size 1 by 1 levels !0 rows repeat;");
+        Texts.faultAt(5, "store s ints 4;texture p on s at 5 size 1 by 1 levels !1 rows repeat;");
+        Texts.good(1, "store s ints 4;texture p on s at 0 size 2 by 2 levels 1 rows repeat;");
         String four = "";
         for (String name : "p q r u".split(" ")) {
             four += "texture " + name + " on s at 0" + one;
         }
-        good(1, S + four);
-        faultAt(2, S + four + "!texture v on s at 0" + one);
+        Texts.good(1, S + four);
+        Texts.faultAt(2, S + four + "!texture v on s at 0" + one);
     }
 
     private static void fills() {
         String p = S + "texture p on s at 0 size 2 by 2 levels 2 rows repeat;";
-        good(1, p + "fill p 0 9999 1;");
-        faultAt(3, p + "fill !s 0 0 0;");
-        faultAt(3, p + "fill !q 0 0 0;");
-        faultAt(3, S + "fill !p 0 0 0;");
-        faultAt(2, p + "fill !fill 0 0 0;");
-        faultAt(1, p + "fill p 0 !10000 0;");
-        faultAt(2, p + "fill p 0 0!;");
-        faultAt(2, p + "fill p 0 0 0 !0;");
+        Texts.good(1, p + "fill p 0 9999 1;");
+        Texts.faultAt(3, p + "fill !s 0 0 0;");
+        Texts.faultAt(3, p + "fill !q 0 0 0;");
+        Texts.faultAt(3, S + "fill !p 0 0 0;");
+        Texts.faultAt(2, p + "fill !fill 0 0 0;");
+        Texts.faultAt(1, p + "fill p 0 !10000 0;");
+        Texts.faultAt(2, p + "fill p 0 0!;");
+        Texts.faultAt(2, p + "fill p 0 0 0 !0;");
         TexelBank x = Due.told(p + "fill p 9 9 9;fill p 1 10 100;");
         int[] due = {100, 101, 110, 111, 105};
         for (int place = 0; place < due.length; place++) {
