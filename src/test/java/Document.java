@@ -19,15 +19,18 @@ final class Document {
         }
     }
 
-    /** Whether the words stand behind a head: "Terms", "Promise 1" .. "Promise 47". */
-    static boolean says(String head, String words) {
+    /** What stands behind a head ("Terms", "Promise 1" .. "Promise 47"), up to the next one. */
+    static String behind(String head) {
         String found = TEXT.indexOf("\n## " + head + ":") >= 0 ? "\n## " + head + ":" : "\n## " + head + "\n";
         int from = TEXT.indexOf(found);
         if (from < 0) {
-            return false;
+            return "";
         }
         int to = TEXT.indexOf("\n## ", from + 1);
-        String behind = TEXT.substring(from, to < 0 ? TEXT.length() : to);
-        return behind.replaceAll("\\s+", " ").contains(words);
+        return TEXT.substring(from, to < 0 ? TEXT.length() : to);
+    }
+
+    static boolean says(String head, String words) {
+        return behind(head).replaceAll("\\s+", " ").contains(words);
     }
 }

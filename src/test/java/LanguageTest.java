@@ -8,6 +8,7 @@ import com.sun.source.tree.LambdaExpressionTree;
 import com.sun.source.tree.MemberReferenceTree;
 import com.sun.source.tree.MethodInvocationTree;
 import com.sun.source.tree.MethodTree;
+import com.sun.source.tree.NewArrayTree;
 import com.sun.source.tree.NewClassTree;
 import com.sun.source.tree.SynchronizedTree;
 import com.sun.source.tree.ThrowTree;
@@ -26,6 +27,7 @@ import java.util.List;
 import java.util.Map;
 import java.util.Set;
 import javax.lang.model.element.Element;
+import javax.lang.model.element.ElementKind;
 import javax.lang.model.element.Modifier;
 import javax.lang.model.element.TypeElement;
 import javax.tools.JavaCompiler;
@@ -186,8 +188,21 @@ public final class LanguageTest {
             return super.visitMethodInvocation(tree, nothing);
         }
 
+        /** No call leaves things behind: what is made is made with its object, but for the rows of ACTS. */
+        private void make(Tree tree) {
+            boolean kept = method == null || method.getKind() == ElementKind.CONSTRUCTOR || method.getSimpleName().contentEquals("begun");
+            Due.dueTrue("what is made in line " + line(trees.getSourcePositions().getStartPosition(unit, tree)) + " is kept", kept);
+        }
+
+        @Override
+        public Void visitNewArray(NewArrayTree tree, Void nothing) {
+            make(tree);
+            return super.visitNewArray(tree, nothing);
+        }
+
         @Override
         public Void visitNewClass(NewClassTree tree, Void nothing) {
+            make(tree);
             Element made = trees.getElement(getCurrentPath());
             String of = made.getEnclosingElement().getSimpleName().toString();
             boolean own = made.getEnclosingElement().toString().startsWith("TexelBank");
